@@ -86,6 +86,10 @@ final class FaceTests {
                 face.add(method.getName());
             }
         }
+        for (Method method : DanceFigures.class.getDeclaredMethods()) {
+            check.holds(method + " bears no name of the face", !face.contains(method.getName())
+                    || Modifier.isPublic(method.getModifiers()));
+        }
         for (Field field : DanceFigures.class.getDeclaredFields()) {
             int modifiers = field.getModifiers();
             boolean isConstant = Arrays.asList(CONSTANTS).contains(field.getName())

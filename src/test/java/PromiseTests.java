@@ -185,6 +185,7 @@ final class PromiseTests {
         check.same("105 steps", x.figure(5, 1), 105);
         callersOfCallers(check);
         millionsOfCalls(check);
+        oneCallEach(check);
     }
 
     private static void callersOfCallers(Check check) {
@@ -209,6 +210,28 @@ final class PromiseTests {
         check.same("a step for a call", x.add(1, SWAP, 0, 1), 10);
         check.same("still 109 steps", x.figure(4, 1), 109);
         check.same("10 by figure 2", x.add(2, SWAP, 0, 1), TOO_MANY);
+    }
+
+    /** The figure 0 stays empty, and each call is the first move of its figure. */
+    private static void oneCallEach(Check check) {
+        DanceFigures x = new DanceFigures();
+        for (int i = 0; i < 10; i++) {
+            x.add(1, SWAP, 0, 1);
+        }
+        x.add(2, CALL, 1, 0);
+        for (int i = 0; i < 9; i++) {
+            x.add(2, CALL, 1, 0);
+            x.add(3, CALL, 2, 0);
+            x.drop(3);
+        }
+        check.same("100 steps", x.figure(2, 1), 100);
+        x.add(3, CALL, 2, 0);
+        check.same("10 more", x.add(3, CALL, 1, 0), 2);
+        check.same("10 more again", x.add(3, CALL, 1, 0), 3);
+        check.same("10 more are too many", x.add(3, CALL, 1, 0), TOO_MANY);
+        x.drop(2);
+        check.same("now they are not", x.add(3, CALL, 1, 0), 4);
+        check.same("but what is called first may not grow", x.add(2, SWAP, 0, 1), TOO_MANY);
     }
 
     /** Calls of figures without steps may stand ten deep in each of seven figures. */
@@ -242,6 +265,8 @@ final class PromiseTests {
         check.same("and their effect", x.effect(1, 2, true), 0);
         check.same("the other goes", x.drop(0), 0);
         check.same("none is left", x.drop(0), NOT_POSSIBLE);
+        x.add(1, TURN, 3, 1);
+        check.same("the last move of the figure that is named", x.drop(1), 1);
         check.same("a call goes", x.drop(1), 0);
         check.same("it is called no more", x.figure(0, 7), 0);
         check.same("errors record nothing", x.count(4), 5);
@@ -636,6 +661,12 @@ final class PromiseTests {
         check.same("two moves", x.figure(0, 0), 2);
         x.add(0, SWAP, 0, 1);
         check.same("it goes on", x.undo(), 0);
+        x.drop(0);
+        x.add(0, RING, 7, 0);
+        x.undo();
+        x.undo();
+        check.same("a move that was replaced is back", x.move(0, 1, 0), TURN);
+        check.same("and what it does", x.effect(0, 0, true), 2);
         x.hold(4, 5);
         x.dance(0, 1, false);
         write(x, "A2");
@@ -916,6 +947,12 @@ final class PromiseTests {
         x.add(2, REVERSE, 3, 4);
         x.add(3, SWAP, 3, 4);
         check.same("reverse turns", x.alike(2, 3), 0);
+        for (int place = 0; place < 10; place++) {
+            x.add(4, TURN, place, 1);
+            check.same("a face at " + place, x.alike(4, 5), 0);
+            check.same("at the same place", x.alike(4, 4), 1);
+            x.drop(4);
+        }
     }
 
     private static void commute(Check check) {
@@ -1008,7 +1045,11 @@ final class PromiseTests {
         check.same("no moves", x.blockedAt(7, false), NONE);
         x.hold(3, 4);
         check.same("backwards, in front of the swap", x.blockedAt(1, true), 1);
-        check.same("once only", x.blockedAt(0, false), 2);
+        x.release(3);
+        x.add(2, RING, 1, 0);
+        x.add(2, SWAP, 3, 4);
+        check.same("twice it would be blocked, but once it is not", x.blockedAt(2, false), NONE);
+        check.same("indeed", x.dance(2, 2, false), -103);
         ringIs(check, x, "0123456789/0000000000");
         check.same("nothing was danced", x.total(0), 0);
     }
@@ -1110,6 +1151,20 @@ final class PromiseTests {
         x.dance(7, 2, false);
         wayIs(check, x, 0);
         orderOfRow(check);
+        eachDancerCounts(check);
+    }
+
+    /** All dancers, the first and the last one too, must be at home with their faces. */
+    private static void eachDancerCounts(Check check) {
+        for (int place = 0; place < 10; place++) {
+            DanceFigures x = new DanceFigures();
+            x.add(0, TURN, place, 1);
+            x.add(1, RING, 1, 0);
+            x.dance(0, 2, false);
+            wayIs(check, x, 2, 0, 0);
+            check.same("home is two times away", x.homeIn(0), 2);
+            check.same("all the others are at home", x.count(0), 9);
+        }
     }
 
     /** Not every order of the same figures brings home; nothing is blocked by holds. */
