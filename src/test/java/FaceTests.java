@@ -6,10 +6,8 @@ import java.lang.reflect.Modifier;
 import java.nio.file.Files;
 import java.nio.file.Path;
 import java.util.Arrays;
-import java.util.Map;
 import java.util.Set;
 import java.util.TreeSet;
-import java.util.function.Consumer;
 import java.util.regex.Matcher;
 import java.util.regex.Pattern;
 
@@ -36,7 +34,7 @@ final class FaceTests {
     private FaceTests() {
     }
 
-    static void addTo(Map<String, Consumer<Check>> tests) {
+    static void addTo(Tests tests) {
         tests.put("the public face", FaceTests::face);
         tests.put("the constants", FaceTests::constants);
         tests.put("rule 1: nothing else is visible", FaceTests::nothingElse);

@@ -1,26 +1,9 @@
-import java.util.Map;
-import java.util.function.Consumer;
-
 /** For each promise of the document: ordinary inputs, the edges that it names, wrong inputs. */
-final class PromiseTests {
-    private static final int NO_SUCH = -1;
-    private static final int BAD_VALUE = -2;
-    private static final int TOO_MANY = -3;
-    private static final int NOT_POSSIBLE = -4;
-    private static final int NONE = -5;
-    private static final int SWAP = 0;
-    private static final int TURN = 1;
-    private static final int RING = 2;
-    private static final int REVERSE = 3;
-    private static final int CALL = 4;
-
-    private static final int[] NO_FIGURES = {-1, 8, 9, Integer.MIN_VALUE, Integer.MAX_VALUE};
-    private static final int[] NO_PLACES = {-1, 10, 11, Integer.MIN_VALUE, Integer.MAX_VALUE};
-
+final class PromiseTests extends Basics {
     private PromiseTests() {
     }
 
-    static void addTo(Map<String, Consumer<Check>> tests) {
+    static void addTo(Tests tests) {
         tests.put("promise 1: a new object", PromiseTests::newObject);
         tests.put("promise 2: add", PromiseTests::add);
         tests.put("promise 2: ranges of a and b", PromiseTests::addRanges);
@@ -56,29 +39,6 @@ final class PromiseTests {
         tests.put("promise 25: homeIn", PromiseTests::homeIn);
         tests.put("promise 26: wayHome", PromiseTests::wayHome);
         tests.put("promise 27: distance", PromiseTests::distance);
-    }
-
-    private static void write(DanceFigures x, String text) {
-        x.clearText();
-        for (int i = 0; i < text.length(); i++) {
-            x.append(text.charAt(i));
-        }
-    }
-
-    /** The dancers at the places 0 to 9, and their faces behind a slash. */
-    private static String ring(DanceFigures x) {
-        StringBuilder dancers = new StringBuilder();
-        StringBuilder faces = new StringBuilder("/");
-        for (int place = 0; place < 10; place++) {
-            dancers.append(x.at(place));
-            faces.append(x.dancer(x.at(place), 1));
-        }
-        return dancers.append(faces).toString();
-    }
-
-    private static void ringIs(Check check, DanceFigures x, String due) {
-        String got = ring(x);
-        check.holds("the ring is " + due + ", found " + got, got.equals(due));
     }
 
     private static void newObject(Check check) {

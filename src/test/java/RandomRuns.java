@@ -1,6 +1,4 @@
-import java.util.Map;
 import java.util.Random;
-import java.util.function.Consumer;
 
 /** Long runs of drawn calls, the same ones each time, against the reference. */
 final class RandomRuns {
@@ -21,7 +19,7 @@ final class RandomRuns {
         this.figures = figures;
     }
 
-    static void addTo(Map<String, Consumer<Check>> tests) {
+    static void addTo(Tests tests) {
         tests.put("random runs, all calls", check -> runs(check, 1, 60, 5, 8));
         tests.put("random runs, few figures", check -> runs(check, 1000, 60, 3, 3));
         tests.put("random runs, many wrong arguments", check -> runs(check, 2000, 40, 40, 8));
