@@ -427,6 +427,16 @@ final class FigureEdges extends Basics {
                 check.same("all above " + figure, x.figure(figure, 7), 256 - (2 << figure));
             }
         });
+        tests.put("promise 18: 6 and 7, called in two ways is called too", check -> {
+            DanceFigures x = new DanceFigures();
+            x.add(1, CALL, 0, 0);
+            x.add(2, CALL, 0, 0);
+            put(x, 3, CALL, 1, 0, CALL, 2, 0);
+            put(x, 4, CALL, 1, 0, CALL, 1, 0);
+            check.same("by two figures", x.figure(3, 6), 0b111);
+            check.same("by the same one twice", x.figure(4, 6), 0b11);
+            check.same("who calls 0", x.figure(0, 7), 0b11110);
+        });
         tests.put("promise 18: 6 and 7, a call that is dropped, once and again", check -> {
             DanceFigures x = new DanceFigures();
             putOften(x, 2, 7, CALL, 0, 0);
