@@ -1,3 +1,6 @@
+import java.util.List;
+import java.util.function.ToIntFunction;
+
 /** The boundary cases of the history, of the snapshot, and of what is counted. */
 final class HistoryEdges extends Basics {
     private HistoryEdges() {
@@ -39,6 +42,7 @@ final class HistoryEdges extends Basics {
         });
         tests.put("promise 1: objects have nothing in common", HistoryEdges::ownThings);
         tests.put("512 calls: the last one is answered as the first one", HistoryEdges::lastCall);
+        tests.put("512 calls: a query is answered at last as at first", HistoryEdges::lastQueries);
     }
 
     private static void ownThings(Check check) {
@@ -64,6 +68,21 @@ final class HistoryEdges extends Basics {
         }
         check.same("call 511", x.total(1), 509);
         check.same("call 512", x.at(0), 9);
+    }
+
+    private static void lastQueries(Check check) {
+        List<ToIntFunction<DanceFigures>> queries = List.of(x -> x.fault(), x -> x.dancer(9, 0), x -> x.at(9),
+                x -> x.move(0, 0, 0), x -> x.figure(0, 2), x -> x.effect(0, 9, false), x -> x.alike(0, 7),
+                x -> x.commute(0, 7), x -> x.count(0), x -> x.total(0), x -> x.blockedAt(0, true),
+                x -> x.homeIn(0), x -> x.wayHome(4), x -> (int) x.distance(), x -> x.save());
+        for (ToIntFunction<DanceFigures> query : queries) {
+            DanceFigures x = with(RING, 1, 0);
+            x.dance(0, 6, false);
+            int due = query.applyAsInt(x);
+            for (int call = 4; call <= 512; call++) {
+                check.same("call " + call, query.applyAsInt(x), due);
+            }
+        }
     }
 
     // ---- what is recorded
