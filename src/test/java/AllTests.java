@@ -15,6 +15,7 @@ public final class AllTests {
         WayEdges.addTo(tests);
         RefusedCalls.addTo(tests);
         FaceTests.addTo(tests);
+        ReadmeTests.addTo(tests);
         RandomRuns.addTo(tests);
         System.exit(tests.pass(args.length == 0 ? "" : args[0]) ? 0 : 1);
     }
