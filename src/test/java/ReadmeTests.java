@@ -17,6 +17,9 @@ final class ReadmeTests {
     private static final Pattern CALL =
             Pattern.compile("x\\.(\\w+)\\((.*)\\);\\s+// (-?\\d+(?:\\.\\d+)?)(?:\\s.*)?");
 
+    private static final Pattern PUBLIC_CALL =
+            Pattern.compile("    public (?:int|double) (\\w+)\\((.*)\\) \\{");
+
     private ReadmeTests() {
     }
 
@@ -101,14 +104,14 @@ final class ReadmeTests {
 
     private static void names(Check check) {
         String page = text("README.md");
-        Matcher calls = Pattern.compile("    public (?:int|double) (\\w+)\\((.*)\\);").matcher(text("../shared/DOC.md"));
+        Matcher calls = PUBLIC_CALL.matcher(text("src/main/java/DanceFigures.java"));
         int found = 0;
         while (calls.find()) {
             String told = calls.group(1) + "(" + calls.group(2).replaceAll("\\w+ (\\w+)", "$1") + ")";
             check.holds("a row for " + told, page.contains("\n| `" + told + "` |"));
             found++;
         }
-        check.same("the calls of the document", found, 26);
+        check.same("the calls of the class", found, 26);
         for (Field field : DanceFigures.class.getFields()) {
             int number = constant(field.getName());
             String code = "\n| " + number + " | `" + field.getName() + "` |";
